@@ -7,6 +7,8 @@ final class Due {
         void run();
     }
 
+    private static final int MOST_PRINTED = 40;
+
     private static int checks = 0;
     private static int wrong = 0;
 
@@ -17,7 +19,9 @@ final class Due {
         checks++;
         if (!Objects.equals(got, want)) {
             wrong++;
-            System.out.println(call + " answered " + got + ", due is " + want);
+            if (wrong <= MOST_PRINTED) {
+                System.out.println(call + " answered " + got + ", due is " + want);
+            }
         }
     }
 

@@ -90,16 +90,41 @@ public final class ModelTest {
 
     private void callForBlocks(int kind) {
         int file = file();
-        if (kind < 62) {
-            int first = oddOr(pick(64));
-            int many = oddOr(1 + pick(pick(4) == 0 ? 64 : 12));
-            same("write(" + file + ", " + first + ", " + many + ")",
-                    () -> volume.write(file, first, many), () -> model.write(file, first, many));
-        } else if (kind < 84) {
-            same("flush(" + file + ")", () -> volume.flush(file), () -> model.flush(file));
+        if (kind < 58) {
+            write(file, oddOr(pick(64)), oddOr(1 + pick(pick(4) == 0 ? 64 : 12)));
+        } else if (kind < 72) {
+            writeOnAndFlush(file);
+        } else if (kind < 86) {
+            flush(file);
         } else {
-            int size = oddOr(pick(65));
+            int size = oddOr(pick(pick(2) == 0 ? 65 : 16));
             same("cut(" + file + ", " + size + ")", () -> volume.cut(file, size), () -> model.cut(file, size));
+        }
+    }
+
+    private void write(int file, int first, int many) {
+        same("write(" + file + ", " + first + ", " + many + ")",
+                () -> volume.write(file, first, many), () -> model.write(file, first, many));
+    }
+
+    private void flush(int file) {
+        same("flush(" + file + ")", () -> volume.flush(file), () -> model.flush(file));
+    }
+
+    /** Blocks that are kept are used only by rows that go on where others end, so some must. */
+    private void writeOnAndFlush(int file) {
+        int first = 0;
+        try {
+            int extent = volume.extent(file, pick(volume.extents(file) + 1));
+            first = extent / 10000 + extent / 100 % 100;
+        } catch (IndexOutOfBoundsException e) {
+            first = pick(64);
+        }
+        for (int turn = pick(4); turn >= 0; turn--) {
+            int many = 1 + pick(5);
+            write(file, first, many);
+            flush(file);
+            first += many;
         }
     }
 

@@ -58,6 +58,13 @@ public final class Promise02CreateTest {
         Due.same("lowest", volume.create(0), 0);
         Due.same("next", volume.create(40), 2);
         Due.same("nothing left from the deleted file", volume.extents(2), 0);
+        volume.open(40);
+        volume.close(2);
+        volume.cut(2, 0);
+        Due.same("the new file is not to be deleted", volume.listed(), 0);
+        volume.crash();
+        volume.start();
+        Due.same("nor by a start", volume.fileOf(40), 2);
     }
 
     private static void whileDown() {

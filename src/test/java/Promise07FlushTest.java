@@ -5,10 +5,14 @@ public final class Promise07FlushTest {
         rowsByRisingPlaces();
         goals();
         goalOutsideTheGroup();
+        goalBehindTheLastBlock();
+        blocksFromTheGoalOnKeepToItsGroup();
         lengths();
         piecesOfOtherGroups();
         halfTheLength();
+        singleBlocks();
         keptBlocksAreUsed();
+        keptBlocksAreUsedOneByOne();
         keptBlocksAreReplaced();
         keptBlocksBehindTheLastPlace();
         littleIsLeft();
@@ -59,10 +63,33 @@ public final class Promise07FlushTest {
         Due.writeAndFlush(volume, 2, 0, 30);
         Due.writeAndFlush(volume, 2, 30, 1);
         Due.same("kept for it", volume.blockAt(2, 30), 94);
-        volume.cut(2, 30);
-        Due.same("no more kept", volume.kept(), 0);
-        Due.writeAndFlush(volume, 2, 30, 4);
-        Due.same("94 to 97 are in two groups", Due.blocks(volume, 2, 30, 4), "4 5 6 7");
+    }
+
+    private static void goalBehindTheLastBlock() {
+        Buddyfield volume = Due.withFiles(7);
+        Due.writeAndFlush(volume, 6, 0, 16);
+        Due.writeAndFlush(volume, 3, 0, 16);
+        Due.writeAndFlush(volume, 2, 0, 32);
+        Due.same("the last half of group 2 and of group 3", volume.extent(2, 1), 161612);
+        volume.delete(6);
+        Due.writeAndFlush(volume, 2, 32, 1);
+        Due.same("128 is no goal, so group 2, and not group 0", volume.blockAt(2, 32), 64);
+    }
+
+    private static void blocksFromTheGoalOnKeepToItsGroup() {
+        Buddyfield volume = Due.withFiles(7);
+        Due.writeAndFlush(volume, 6, 0, 4);
+        Due.writeAndFlush(volume, 2, 0, 4);
+        Due.writeAndFlush(volume, 2, 4, 16);
+        Due.writeAndFlush(volume, 2, 20, 6);
+        volume.cut(2, 26);
+        Due.same("up to 93", Due.blocks(volume, 2, 25, 2), "93 -1");
+        Due.writeAndFlush(volume, 2, 26, 4);
+        Due.same("94 to 97 are free, but in two groups", Due.blocks(volume, 2, 26, 4), "96 97 98 99");
+        volume.cut(2, 26);
+        volume.delete(6);
+        Due.writeAndFlush(volume, 2, 26, 2);
+        Due.same("94 and 95 end the group", Due.blocks(volume, 2, 26, 2), "94 95");
     }
 
     private static void lengths() {
@@ -119,6 +146,40 @@ public final class Promise07FlushTest {
         Due.same("flush", Due.writeAndFlush(volume, 0, 40, 9), 9);
         Due.same("8, then 1 behind it, not kept", volume.kept() + before - volume.free(), 9);
         Due.same("behind 31 is group 1", Due.blocks(volume, 0, 40, 9), "24 25 26 27 28 29 30 31 49");
+    }
+
+    /** Two files take turns at single blocks; without one of them, no two free ones are side by side. */
+    private static void singleBlocks() {
+        Buddyfield volume = Due.withFiles(13);
+        for (int place = 0; place < 64; place++) {
+            Due.writeAndFlush(volume, place % 2 * 4, place, 1);
+        }
+        for (int place = 0; place < 64; place++) {
+            Due.writeAndFlush(volume, 8 + place % 2 * 4, place, 1);
+        }
+        Due.same("all blocks", volume.free(), 0);
+        volume.delete(4);
+        volume.delete(12);
+        Due.same("no two side by side", volume.pieces(0, 0) + volume.pieces(0, 1), 16);
+        Due.writeAndFlush(volume, 1, 0, 2);
+        Due.same("two single blocks", Due.blocks(volume, 1, 0, 2), "33 35");
+        Due.same("kept", volume.kept(), 0);
+    }
+
+    private static void keptBlocksAreUsedOneByOne() {
+        Buddyfield volume = Due.withFiles(1);
+        Due.writeAndFlush(volume, 0, 0, 9);
+        Due.writeAndFlush(volume, 0, 9, 2);
+        Due.same("kept", volume.kept(), 5);
+        Due.writeAndFlush(volume, 0, 11, 1);
+        Due.same("kept", volume.kept(), 4);
+        Due.writeAndFlush(volume, 0, 8, 4);
+        Due.same("nothing new", volume.kept(), 4);
+        Due.writeAndFlush(volume, 0, 10, 4);
+        Due.same("the two next ones", volume.kept(), 2);
+        Due.writeAndFlush(volume, 0, 14, 1);
+        Due.same("all of one extent", volume.extent(0, 0), 1500);
+        Due.same("kept", volume.kept(), 1);
     }
 
     private static void keptBlocksAreUsed() {

@@ -6,6 +6,7 @@ public final class Promise26To28NamesTest {
         aSplitBetweenHashes();
         namesTakenOutAreMissing();
         theHashIsFoundBehindOthers();
+        aNewLeafAheadOfAContinuedOne();
         splitsGoByHashThenName();
         wrongInputs();
         Due.end("promises 26 to 28");
@@ -108,6 +109,26 @@ public final class Promise26To28NamesTest {
         looks(other, 2, 1);
         Due.same("fileOf 1", other.fileOf(1), 1);
         Due.same("fileOf 49", other.fileOf(49), 4);
+    }
+
+    /** The name 1 with hash 5 is taken on by a new leaf between the first one and a continued one. */
+    private static void aNewLeafAheadOfAContinuedOne() {
+        Buddyfield volume = named(0, 1, 17, 33, 49);
+        Due.same("0, 1 and, continued, 17, 33, 49", volume.leaves(), 2);
+        volume.create(16);
+        volume.create(32);
+        volume.create(48);
+        Due.same("0, 16 and 32, 48, 1 and 17, 33, 49", volume.leaves(), 3);
+        looks(volume, 1, 1);
+        looks(volume, 49, 2);
+        looks(volume, 65, 2);
+        looks(volume, 16, 1);
+        looks(volume, 48, 2);
+        Due.same("fileOf 1", volume.fileOf(1), 1);
+        Due.same("fileOf 33", volume.fileOf(33), 3);
+        Due.same("delete 1", volume.delete(1), 1);
+        Due.same("fileOf 1", volume.fileOf(1), Buddyfield.NONE);
+        looks(volume, 17, 2);
     }
 
     private static void splitsGoByHashThenName() {
