@@ -19,7 +19,7 @@ public final class Buddyfield {
     private static final int HASHES = 16;
     private static final int NAMES_OF_LEAF = 4;
     private static final int NAMES_THAT_STAY = 2;
-    // A create splits one leaf at most, so 512 calls never come to this many.
+    // A create splits one leaf at most, the first four none, so 512 calls never come to this many.
     private static final int MOST_LEAVES = 512;
 
     private final Ground ground = new Ground();
