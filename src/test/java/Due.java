@@ -15,6 +15,14 @@ final class Due {
     private Due() {
     }
 
+    static int checks() {
+        return checks;
+    }
+
+    static int wrong() {
+        return wrong;
+    }
+
     static void same(String call, Object got, Object want) {
         checks++;
         if (!Objects.equals(got, want)) {
