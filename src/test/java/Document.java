@@ -89,7 +89,8 @@ final class Document {
         List<String> found = new ArrayList<>();
         for (Sentence sentence : sentences) {
             if (!sentence.isQuoted) {
-                found.add((sentence.section == TERMS ? "Terms: " : "promise " + sentence.section + ": ") + sentence.text);
+                String where = sentence.section == TERMS ? "Terms" : "promise " + sentence.section;
+                found.add(where + ": " + sentence.text);
             }
         }
         return found;

@@ -16,16 +16,19 @@ public final class EdgesMain {
             Method tests = Class.forName(args[i]).getDeclaredMethod("tests", Edges.class);
             tests.invoke(null, edges);
         }
-        edges.promise(Document.TERMS).on("There are the blocks").test("here as in each other sentence: it has a test", () -> {
-            Due.same("sentences that were read", document.count() > 100, true);
-            for (String sentence : document.notQuoted()) {
-                Due.same("a test for " + sentence, false, true);
-            }
-        });
+        edges.promise(Document.TERMS).on("There are the blocks 0 to 127")
+                .test("this sentence and each other one has a test", () -> everySentenceHasATest(document));
         System.out.println("boundary cases: " + (edges.passed() + edges.failed()) + " ran, "
                 + edges.failed() + " of them failed");
         if (edges.failed() != 0) {
             System.exit(1);
+        }
+    }
+
+    private static void everySentenceHasATest(Document document) {
+        Due.same("enough sentences were read", document.count() > 100, true);
+        for (String sentence : document.notQuoted()) {
+            Due.same("a test for " + sentence, false, true);
         }
     }
 }

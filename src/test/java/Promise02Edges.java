@@ -1,4 +1,7 @@
-/** Promise 2, and how a name is added to the leaves. Hashes: 0, 16, 32 .. have 0; 13, 29 .. 1; 10, 26 .. 2; 7, 23 .. 3. */
+/**
+ * Promise 2, and how a name is added to the leaves. Of the names that stand here, 0, 16, 32 .. have the
+ * hash 0; 13, 29, 45 .. have 1; 10, 26, 42 .. have 2; 7, 23, 39 .. have 3; 4 has 4; 1, 17, 33 .. have 5.
+ */
 final class Promise02Edges {
 
     private Promise02Edges() {

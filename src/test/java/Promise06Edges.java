@@ -39,7 +39,7 @@ final class Promise06Edges {
                         volume -> volume.write(16, 64, 65))
                 .badArgument("first 64, and down", Volumes::down, volume -> volume.write(0, 64, 1))
                 .badArgument("many 0, and down", Volumes::down, volume -> volume.write(0, 0, 0))
-                .badArgument("place 64, and none left", Promise06Edges::allMapped, volume -> volume.write(2, 63, 2));
+                .badArgument("place 64, and none left", Volumes::allMapped, volume -> volume.write(2, 63, 2));
     }
 
     private static void places(Edges edges) {
@@ -68,7 +68,7 @@ final class Promise06Edges {
                 .test("the last one", () -> Due.same("write", Volumes.leaving(1).write(0, 0, 1), 1))
                 .badState("one behind the last one", () -> Volumes.leaving(0), volume -> volume.write(0, 0, 1))
                 .badState("two of one", () -> Volumes.leaving(1), volume -> volume.write(0, 0, 2))
-                .badState("none left, all blocks mapped", Promise06Edges::allMapped, volume -> volume.write(2, 0, 1))
+                .badState("none left, all blocks mapped", Volumes::allMapped, volume -> volume.write(2, 0, 1))
                 .test("a block that a cut frees is left again", Promise06Edges::leftAgain)
                 .test("a reserved block that a cut drops is left again", Promise06Edges::leftAgainFromReserved);
         edges.on("If less is left than that needs, all blocks that are kept are free first, "
@@ -80,6 +80,7 @@ final class Promise06Edges {
                         volume -> volume.write(3, 0, 51))
                 .test("none left, and nothing needed: they stay kept", Promise06Edges::keptStayIfNothingIsNeeded)
                 .test("those of the file itself and of the others", Promise06Edges::allFilesKept)
+                .test("those of file 0 and of file 15", Promise06Edges::firstAndLastFileKept)
                 .test("they are not mapped any more by a later flush", Promise06Edges::freedAreNotMapped);
         edges.on("Throws `IllegalStateException` if less is left than that needs, also without blocks that are kept")
                 .badState("64 of 63", () -> Volumes.leaving(63), volume -> volume.write(0, 0, 64))
@@ -166,16 +167,9 @@ final class Promise06Edges {
     }
 
     private static void nothingNeeded() {
-        Buddyfield volume = allMapped();
+        Buddyfield volume = Volumes.allMapped();
         Due.same("free", volume.free(), 0);
         Due.same("write", volume.write(0, 0, 64), 0);
-    }
-
-    private static Buddyfield allMapped() {
-        Buddyfield volume = Due.withFiles(3);
-        Due.writeAndFlush(volume, 0, 0, 64);
-        Due.writeAndFlush(volume, 1, 0, 64);
-        return volume;
     }
 
     private static void allAreReserved() {
@@ -187,7 +181,7 @@ final class Promise06Edges {
     }
 
     private static void leftAgain() {
-        Buddyfield volume = allMapped();
+        Buddyfield volume = Volumes.allMapped();
         volume.cut(0, 63);
         Due.same("write", volume.write(2, 0, 1), 1);
         Due.badState(volume, "no more", () -> volume.write(2, 1, 1));
@@ -215,6 +209,19 @@ final class Promise06Edges {
         }
         Due.same("block 4 is mapped", volume.isFree(4), false);
         Due.same("block 40 is mapped", volume.isFree(40), false);
+    }
+
+    private static void firstAndLastFileKept() {
+        Buddyfield volume = Due.withFiles(16);
+        Due.writeAndFlush(volume, 0, 0, 5);
+        Due.writeAndFlush(volume, 15, 0, 5);
+        volume.write(1, 0, 64);
+        volume.write(2, 0, 48);
+        Due.same("kept", volume.kept(), 6);
+        Due.same("write", volume.write(3, 0, 1), 1);
+        Due.same("kept", volume.kept(), 0);
+        Due.same("free", volume.free(), 118);
+        Due.same("left", volume.write(3, 1, 5), 5);
     }
 
     /** Block 5 was kept for place 5 of file 0; free again, it goes to file 2, which is flushed first. */

@@ -45,7 +45,10 @@ final class Promise07Edges {
 
     private static void goals(Edges edges) {
         edges.on("Otherwise the goal is the block behind the one to which the place ahead of what remains is mapped")
-                .test("the place ahead is mapped: on behind it, not aligned", Promise07Edges::behindThePlaceAhead)
+                .test("the place ahead is mapped: on behind it, not aligned", () -> behindThePlaceAhead(0))
+                .test("the same in group 1", () -> behindThePlaceAhead(1))
+                .test("the same in group 2", () -> behindThePlaceAhead(2))
+                .test("the same in group 3", () -> behindThePlaceAhead(3))
                 .test("the place ahead, not the one that was mapped last", Promise07Edges::notBehindTheLast)
                 .test("behind 16 of a row, too", () -> placesDue(0, 0, 18, upFrom(0, 18)))
                 .test("behind 31: 32, in the next group", Promise07Edges::goalInTheNextGroup)
@@ -62,10 +65,15 @@ final class Promise07Edges {
                 .test("the place behind alone is mapped", Promise07Edges::mappedBehind)
                 .test("the block would be 128", Promise07Edges::goal128);
         edges.on("the blocks from the goal on are taken if all of them are free and in the group of the goal")
-                .test("the last of them ends the group", Promise07Edges::endOfTheGroup)
-                .test("the last of them would begin the next group", Promise07Edges::beyondTheGroup)
-                .test("the last of the last group ends the volume", Promise07Edges::endOfTheVolume)
-                .test("the last of them would be 128", Promise07Edges::beyondTheVolume)
+                .test("the last of them is 31, and ends group 0", () -> endOfTheGroup(0))
+                .test("the last of them is 63, and ends group 1", () -> endOfTheGroup(1))
+                .test("the last of them is 95, and ends group 2", () -> endOfTheGroup(2))
+                .test("the last of them is 127, and ends group 3", () -> endOfTheGroup(3))
+                .test("the last of them would be 32, of group 1", () -> beyondTheGroup(0))
+                .test("the last of them would be 64, of group 2", () -> beyondTheGroup(1))
+                .test("the last of them would be 96, of group 3", () -> beyondTheGroup(2))
+                .test("the last of them would be 128, which is no block", () -> beyondTheGroup(3))
+                .test("all but the first of them would be in the next group", Promise07Edges::almostAllBeyond)
                 .test("the first of them is not free", Promise07Edges::firstIsNotFree)
                 .test("the last of them is not free", Promise07Edges::lastIsNotFree)
                 .test("one of them is kept for another file", Promise07Edges::keptIsNotFree);
@@ -258,10 +266,10 @@ final class Promise07Edges {
 
     // ---- goals
 
-    private static void behindThePlaceAhead() {
-        Buddyfield volume = Due.withFiles(1);
-        Due.writeAndFlush(volume, 0, 0, 1);
-        blocksDue(volume, 0, 1, 4, "1 2 3 4");
+    private static void behindThePlaceAhead(int group) {
+        Buddyfield volume = Due.withFiles(4);
+        Due.writeAndFlush(volume, group, 0, 1);
+        blocksDue(volume, group, 1, 4, upFrom(32 * group + 1, 4));
     }
 
     private static void notBehindTheLast() {
@@ -278,21 +286,22 @@ final class Promise07Edges {
         blocksDue(volume, 0, 32, 2, "32 33");
     }
 
-    /** File 3 has the blocks 96 to 126, by lengths that keep none. */
+    /** File 7 has block 96, and file 3 those behind it up to 126; then 96 is free again, and 127 is, too. */
     private static Buddyfield upTo126() {
-        Buddyfield volume = Due.withFiles(4);
-        Due.writeAndFlush(volume, 3, 0, 16);
-        Due.writeAndFlush(volume, 3, 16, 8);
-        Due.writeAndFlush(volume, 3, 24, 4);
-        Due.writeAndFlush(volume, 3, 28, 2);
-        Due.writeAndFlush(volume, 3, 30, 1);
-        Due.same("extent", volume.extent(3, 0), 3196);
-        Due.same("kept", volume.kept(), 0);
+        Buddyfield volume = Due.withFiles(8);
+        Due.writeAndFlush(volume, 7, 0, 1);
+        Due.writeAndFlush(volume, 3, 0, 1);
+        Due.writeAndFlush(volume, 3, 1, 16);
+        Due.writeAndFlush(volume, 3, 17, 8);
+        Due.writeAndFlush(volume, 3, 25, 4);
+        Due.writeAndFlush(volume, 3, 29, 1);
+        volume.delete(7);
+        Due.same("extent", volume.extent(3, 0), 3097);
         return volume;
     }
 
     private static void goal127() {
-        blocksDue(upTo126(), 3, 31, 1, "127");
+        blocksDue(upTo126(), 3, 30, 1, "127");
     }
 
     private static void nothingAhead() {
@@ -321,38 +330,29 @@ final class Promise07Edges {
     }
 
     /** With the first eight blocks of the group free again, which would be found otherwise. */
-    private static void endOfTheGroup() {
-        Buddyfield volume = Due.withFiles(5);
-        Due.writeAndFlush(volume, 4, 0, 8);
-        Due.writeAndFlush(volume, 0, 0, 8);
-        Due.writeAndFlush(volume, 0, 8, 8);
-        volume.delete(4);
-        Due.same("8 to 23", volume.extent(0, 0), 1608);
-        blocksDue(volume, 0, 16, 8, upFrom(24, 8));
-    }
-
-    private static void beyondTheGroup() {
-        Buddyfield volume = Due.withFiles(1);
-        Due.writeAndFlush(volume, 0, 0, 16);
-        Due.writeAndFlush(volume, 0, 16, 8);
-        Due.writeAndFlush(volume, 0, 24, 4);
-        Due.writeAndFlush(volume, 0, 28, 1);
-        Due.same("29 to 32 are free", volume.isFree(29) && volume.isFree(32), true);
-        blocksDue(volume, 0, 29, 4, "32 33 34 35");
-    }
-
-    private static void endOfTheVolume() {
+    private static void endOfTheGroup(int group) {
         Buddyfield volume = Due.withFiles(8);
-        Due.writeAndFlush(volume, 7, 0, 8);
-        Due.writeAndFlush(volume, 3, 0, 8);
-        Due.writeAndFlush(volume, 3, 8, 8);
-        volume.delete(7);
-        Due.same("104 to 119", volume.extent(3, 0), 1604);
-        blocksDue(volume, 3, 16, 8, upFrom(120, 8));
+        Due.writeAndFlush(volume, group + 4, 0, 8);
+        Due.writeAndFlush(volume, group, 0, 8);
+        Due.writeAndFlush(volume, group, 8, 8);
+        volume.delete(group + 4);
+        Due.same("eight blocks on", volume.blockAt(group, 0), 32 * group + 8);
+        blocksDue(volume, group, 16, 8, upFrom(32 * group + 24, 8));
     }
 
-    private static void beyondTheVolume() {
-        blocksDue(upTo126(), 3, 31, 2, "0 1");
+    /** The last three blocks of the group are free, and the next group is. */
+    private static void beyondTheGroup(int group) {
+        Buddyfield volume = Due.withFiles(4);
+        Due.writeAndFlush(volume, group, 0, 16);
+        Due.writeAndFlush(volume, group, 16, 8);
+        Due.writeAndFlush(volume, group, 24, 4);
+        Due.writeAndFlush(volume, group, 28, 1);
+        Due.same("the last one of the group", volume.isFree(32 * group + 31), true);
+        blocksDue(volume, group, 29, 4, upFrom(32 * ((group + 1) % 4), 4));
+    }
+
+    private static void almostAllBeyond() {
+        blocksDue(upTo126(), 3, 30, 16, upFrom(0, 16));
     }
 
     private static void firstIsNotFree() {
@@ -454,13 +454,9 @@ final class Promise07Edges {
         blocksDue(volume, 8, 0, 16, upFrom(24, 8) + " " + upFrom(56, 8));
     }
 
-    /** File 0 and file 4 have every other block of all; file 0 is cut to 4, so 60 single ones are free. */
+    /** File 0 is cut to 4, so that 60 single blocks are free. */
     private static void halvedToOne() {
-        Buddyfield volume = Due.withFiles(6);
-        for (int place = 0; place < 64; place++) {
-            Due.writeAndFlush(volume, 0, place, 1);
-            Due.writeAndFlush(volume, 4, place, 1);
-        }
+        Buddyfield volume = Volumes.everyOtherBlock();
         Due.same("place 63 of both", volume.blockAt(0, 63) * 1000 + volume.blockAt(4, 63), 126127);
         volume.cut(0, 4);
         Due.same("no two side by side", volume.pieces(0, 1) + volume.pieces(3, 1), 0);
@@ -506,21 +502,14 @@ final class Promise07Edges {
 
     // ---- blocks that are kept
 
-    private static Buddyfield fiveOfEight() {
-        Buddyfield volume = Due.withFiles(5);
-        Due.writeAndFlush(volume, 0, 0, 5);
-        Due.same("kept", volume.kept(), 3);
-        return volume;
-    }
-
     private static void keptOnes(int first, int many, int kept, String want) {
-        Buddyfield volume = fiveOfEight();
+        Buddyfield volume = Volumes.fiveOfEight();
         blocksDue(volume, 0, first, many, want);
         Due.same("kept", volume.kept(), kept);
     }
 
     private static void oneByOne() {
-        Buddyfield volume = fiveOfEight();
+        Buddyfield volume = Volumes.fiveOfEight();
         for (int place = 5; place < 8; place++) {
             blocksDue(volume, 0, place, 1, Integer.toString(place));
             Due.same("kept", volume.kept(), 7 - place);
@@ -564,7 +553,7 @@ final class Promise07Edges {
 
     /** Place 6 is mapped elsewhere first; behind place 5 the block for it stays kept, and is never mapped. */
     private static void keptForMappedPlace() {
-        Buddyfield volume = fiveOfEight();
+        Buddyfield volume = Volumes.fiveOfEight();
         blocksDue(volume, 0, 6, 1, "8");
         blocksDue(volume, 0, 5, 1, "5");
         Due.same("kept for 6 and 7", volume.kept(), 2);
@@ -573,21 +562,21 @@ final class Promise07Edges {
     }
 
     private static void keptForAnotherFile() {
-        Buddyfield volume = fiveOfEight();
+        Buddyfield volume = Volumes.fiveOfEight();
         blocksDue(volume, 4, 5, 1, "8");
         Due.same("kept", volume.kept(), 3);
     }
 
     /** A cut to 64 changes no place, but the blocks are not kept any more; another file takes the first. */
     private static void notBehindACut() {
-        Buddyfield volume = fiveOfEight();
+        Buddyfield volume = Volumes.fiveOfEight();
         volume.cut(0, 64);
         blocksDue(volume, 4, 0, 1, "5");
         blocksDue(volume, 0, 5, 1, "6");
     }
 
     private static void notBehindACrash() {
-        Buddyfield volume = fiveOfEight();
+        Buddyfield volume = Volumes.fiveOfEight();
         volume.crash();
         volume.start();
         blocksDue(volume, 4, 0, 1, "5");
@@ -595,7 +584,7 @@ final class Promise07Edges {
     }
 
     private static void keptStay() {
-        Buddyfield volume = fiveOfEight();
+        Buddyfield volume = Volumes.fiveOfEight();
         blocksDue(volume, 0, 20, 4, "8 9 10 11");
         Due.same("kept", volume.kept(), 3);
         blocksDue(volume, 0, 5, 1, "5");
@@ -603,7 +592,7 @@ final class Promise07Edges {
     }
 
     private static void keptAreReplaced() {
-        Buddyfield volume = fiveOfEight();
+        Buddyfield volume = Volumes.fiveOfEight();
         blocksDue(volume, 0, 20, 3, "8 9 10");
         Due.same("kept", volume.kept(), 1);
         Due.same("5 and 7 are free", volume.isFree(5) && volume.isFree(7), true);
@@ -616,7 +605,7 @@ final class Promise07Edges {
     }
 
     private static void othersKeptStay() {
-        Buddyfield volume = fiveOfEight();
+        Buddyfield volume = Volumes.fiveOfEight();
         Due.writeAndFlush(volume, 4, 0, 3);
         Due.same("kept", volume.kept(), 4);
         blocksDue(volume, 0, 5, 1, "5");

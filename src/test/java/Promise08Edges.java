@@ -115,13 +115,8 @@ final class Promise08Edges {
         Due.same("none any more", volume.cut(0, size), 0);
     }
 
-    /** Two files with every other block each, so that each place is an extent. */
     private static void sixtyFourSteps() {
-        Buddyfield volume = Due.withFiles(5);
-        for (int place = 0; place < 64; place++) {
-            Due.writeAndFlush(volume, 0, place, 1);
-            Due.writeAndFlush(volume, 4, place, 1);
-        }
+        Buddyfield volume = Volumes.everyOtherBlock();
         Due.same("extents", volume.extents(0), 64);
         Due.same("cut", volume.cut(0, 0), 64);
         Due.same("free", volume.free(), 64);
@@ -235,8 +230,7 @@ final class Promise08Edges {
     }
 
     private static void keptAreFree() {
-        Buddyfield volume = Due.withFiles(1);
-        Due.writeAndFlush(volume, 0, 0, 5);
+        Buddyfield volume = Volumes.fiveOfEight();
         Due.same("kept", volume.kept(), 3);
         Due.same("cut", volume.cut(0, 64), 0);
         Due.same("kept", volume.kept(), 0);

@@ -22,6 +22,8 @@ final class Promise10Edges {
                 .test("nothing is kept", () -> Due.same("kept", crashed().kept(), 0))
                 .test("kept blocks are free", Promise10Edges::keptBlocks)
                 .test("no file is open", Promise10Edges::noFileIsOpen)
+                .test("of file 0 and of file 15, too, nothing is reserved, kept or open",
+                        Promise10Edges::firstAndLastFile)
                 .test("the volume is down", () -> Due.same("isDown", crashed().isDown(), true))
                 .test("what is mapped stays", Promise10Edges::mappedStays)
                 .test("files, names and leaves stay", Promise10Edges::namesStay)
@@ -107,6 +109,23 @@ final class Promise10Edges {
         Buddyfield volume = crashed();
         for (int file = 0; file < 8; file++) {
             Due.same("opens " + file, volume.opens(file), 0);
+        }
+    }
+
+    private static void firstAndLastFile() {
+        Buddyfield volume = Due.withFiles(16);
+        for (int file : new int[] {0, 15}) {
+            Due.writeAndFlush(volume, file, 0, 5);
+            volume.write(file, 20, 2);
+            volume.open(file);
+        }
+        volume.crash();
+        Due.same("reserved", volume.reserved(), 0);
+        Due.same("kept", volume.kept(), 0);
+        Due.same("free", volume.free(), 118);
+        for (int file : new int[] {0, 15}) {
+            Due.same("opens", volume.opens(file), 0);
+            Due.same("place 21", volume.blockAt(file, 21), Buddyfield.NONE);
         }
     }
 

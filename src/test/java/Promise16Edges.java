@@ -14,10 +14,10 @@ final class Promise16Edges {
     private static void all(Edges edges) {
         edges.test("128, the most, at first", () -> freeDue(new Buddyfield(), 128))
                 .test("128 with all of them reserved", () -> freeDue(Volumes.leaving(0), 128))
-                .test("0, with all of them mapped", () -> freeDue(allMapped(), 0))
+                .test("0, with all of them mapped", () -> freeDue(Volumes.allMapped(), 0))
                 .test("0, with one of them kept and all others mapped", () -> freeDue(allMappedButAKeptOne(), 0))
                 .test("1 behind a cut of one place of a full volume", Promise16Edges::oneCut)
-                .test("a kept block is not free", () -> freeDue(fiveOfEight(), 120))
+                .test("a kept block is not free", () -> freeDue(Volumes.fiveOfEight(), 120))
                 .test("it is free behind a crash", Promise16Edges::crashed)
                 .test("the blocks of an open file that is to be deleted are not free",
                         () -> freeDue(Volumes.busy(), 84))
@@ -30,13 +30,6 @@ final class Promise16Edges {
         Due.same("freeByFiles", volume.freeByFiles(), want);
     }
 
-    private static Buddyfield allMapped() {
-        Buddyfield volume = Due.withFiles(2);
-        Due.writeAndFlush(volume, 0, 0, 64);
-        Due.writeAndFlush(volume, 1, 0, 64);
-        return volume;
-    }
-
     private static Buddyfield allMappedButAKeptOne() {
         Buddyfield volume = Due.withFiles(2);
         Due.writeAndFlush(volume, 0, 0, 64);
@@ -45,20 +38,14 @@ final class Promise16Edges {
         return volume;
     }
 
-    private static Buddyfield fiveOfEight() {
-        Buddyfield volume = Due.withFiles(1);
-        Due.writeAndFlush(volume, 0, 0, 5);
-        return volume;
-    }
-
     private static void oneCut() {
-        Buddyfield volume = allMapped();
+        Buddyfield volume = Volumes.allMapped();
         volume.cut(1, 63);
         freeDue(volume, 1);
     }
 
     private static void crashed() {
-        Buddyfield volume = fiveOfEight();
+        Buddyfield volume = Volumes.fiveOfEight();
         volume.crash();
         freeDue(volume, 123);
     }

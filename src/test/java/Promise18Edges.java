@@ -15,6 +15,7 @@ final class Promise18Edges {
                 .test("1", Promise18Edges::one)
                 .test("128, the most", () -> Due.same("reserved", Volumes.leaving(0).reserved(), 128))
                 .test("of all files", () -> Due.same("reserved", Volumes.busy().reserved(), 8))
+                .test("of file 0 and of file 15", Promise18Edges::firstAndLastFile)
                 .test("none of those that a flush has mapped", Promise18Edges::flushed)
                 .test("none of those that a cut has dropped", Promise18Edges::cut)
                 .test("none of a deleted file", Promise18Edges::deleted)
@@ -31,6 +32,7 @@ final class Promise18Edges {
                 .test("7, the most of a file, for 9 places", () -> keptFor(9, 7))
                 .test("0 for 16 places", () -> keptFor(16, 0))
                 .test("of all files: 56, 7 for each of eight", Promise18Edges::mostOfAll)
+                .test("of file 0 and of file 15", Promise18Edges::firstAndLastFileKept)
                 .test("1 less with each that is mapped, down to 0", Promise18Edges::downTo0)
                 .test("0 behind a cut", Promise18Edges::cutToo)
                 .test("0 behind a delete", Promise18Edges::deletedToo)
@@ -41,6 +43,23 @@ final class Promise18Edges {
         Buddyfield volume = Due.withFiles(1);
         volume.write(0, 63, 1);
         Due.same("reserved", volume.reserved(), 1);
+    }
+
+    private static void firstAndLastFile() {
+        Buddyfield volume = Due.withFiles(16);
+        volume.write(0, 0, 2);
+        Due.same("reserved", volume.reserved(), 2);
+        volume.write(15, 0, 3);
+        Due.same("reserved", volume.reserved(), 5);
+    }
+
+    private static void firstAndLastFileKept() {
+        Buddyfield volume = Due.withFiles(16);
+        Due.writeAndFlush(volume, 0, 0, 3);
+        Due.same("kept", volume.kept(), 1);
+        Due.writeAndFlush(volume, 15, 0, 5);
+        Due.same("kept", volume.kept(), 4);
+        Due.same("freeByFiles", volume.freeByFiles(), 116);
     }
 
     private static void flushed() {

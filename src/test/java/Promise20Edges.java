@@ -124,11 +124,7 @@ final class Promise20Edges {
     }
 
     private static void everyOther() {
-        Buddyfield volume = Due.withFiles(5);
-        for (int place = 0; place < 64; place++) {
-            Due.writeAndFlush(volume, 0, place, 1);
-            Due.writeAndFlush(volume, 4, place, 1);
-        }
+        Buddyfield volume = Volumes.everyOtherBlock();
         volume.delete(0);
         for (int group = 0; group < 4; group++) {
             Due.same("group " + group, piecesOf(volume, group), "16 0 0 0 0 0");

@@ -67,9 +67,7 @@ final class Promise21Edges {
     }
 
     private static void fullVolume() {
-        Buddyfield volume = Due.withFiles(2);
-        Due.writeAndFlush(volume, 0, 0, 64);
-        Due.writeAndFlush(volume, 1, 0, 64);
+        Buddyfield volume = Volumes.allMapped();
         for (int block = 0; block < 128; block++) {
             Due.same("block " + block, volume.isFree(block), false);
         }

@@ -23,7 +23,7 @@ final class Promise23Edges {
                 .test("0 with reserved places alone", () -> Due.same("extents", Volumes.leaving(0).extents(1), 0))
                 .test("1 of one place", () -> Due.same("extents", mapped(63, 1).extents(0), 1))
                 .test("1 of all places", () -> Due.same("extents", mapped(0, 64).extents(0), 1))
-                .test("64, the most", () -> Due.same("extents", everyOther().extents(0), 64))
+                .test("64, the most", () -> Due.same("extents", Volumes.everyOtherBlock().extents(0), 64))
                 .test("0 behind a cut to 0", Promise23Edges::cutToNone);
         edges.on("An extent is a longest row of places, one behind the other, "
                 + "that are mapped to blocks one behind the other.")
@@ -44,15 +44,15 @@ final class Promise23Edges {
                 .test("file 15", () -> Due.same("extent", Volumes.full().extent(15, 0), 150199));
         edges.on("`extent`: 0 for that with the lowest places")
                 .test("0, also if it was mapped last", Promise23Edges::lowestPlaces)
-                .test("1, the next one", () -> Due.same("extent", everyOther().extent(0, 1), 10102))
-                .test("63, the last of 64", () -> Due.same("extent", everyOther().extent(0, 63), 630126));
+                .test("1, the next one", () -> Due.same("extent", Volumes.everyOtherBlock().extent(0, 1), 10102))
+                .test("63, the last of 64", () -> Due.same("extent", Volumes.everyOtherBlock().extent(0, 63), 630126));
         edges.on("Throws `IndexOutOfBoundsException` if there is no such file or extent")
                 .noSuchFile((volume, file) -> volume.extent(file, 0))
                 .noSuchFileWhileDown((volume, file) -> volume.extent(file, 0))
                 .outOfBounds("no such file and no such extent", Volumes::busy, volume -> volume.extent(8, -1))
                 .outOfBounds("extent 0 of none", Volumes::busy, volume -> volume.extent(4, 0))
                 .outOfBounds("extent 0 of reserved places alone", Volumes::busy, volume -> volume.extent(2, 0))
-                .outOfBounds("extent 64 of 64", Promise23Edges::everyOther, volume -> volume.extent(0, 64));
+                .outOfBounds("extent 64 of 64", Volumes::everyOtherBlock, volume -> volume.extent(0, 64));
         for (int extent : new int[] {-1, 1, Integer.MIN_VALUE, Integer.MAX_VALUE}) {
             edges.outOfBounds("extent " + extent + " of one", Volumes::busy, volume -> volume.extent(0, extent))
                     .outOfBounds("extent " + extent + " of one, and down", Volumes::down,
@@ -75,7 +75,7 @@ final class Promise23Edges {
                 + "as a float, divided by the number of extents, as a float.")
                 .test("1.0 with one place", () -> Due.same("average", mapped(0, 1).average(0), 1.0f))
                 .test("64.0, the most", () -> Due.same("average", mapped(0, 64).average(0), 64.0f))
-                .test("1.0 with 64 extents", () -> Due.same("average", everyOther().average(0), 1.0f))
+                .test("1.0 with 64 extents", () -> Due.same("average", Volumes.everyOtherBlock().average(0), 1.0f))
                 .test("1.5, not a whole number", Promise23Edges::oneAndAHalf)
                 .test("4 thirds, as a float", Promise23Edges::fourThirds)
                 .test("reserved and kept ones are not counted", Promise23Edges::mappedAlone);
@@ -93,16 +93,6 @@ final class Promise23Edges {
     private static Buddyfield mapped(int first, int many) {
         Buddyfield volume = Due.withFiles(1);
         Due.writeAndFlush(volume, 0, first, many);
-        return volume;
-    }
-
-    /** Two files with every other block each: file 0 has the even ones. */
-    private static Buddyfield everyOther() {
-        Buddyfield volume = Due.withFiles(5);
-        for (int place = 0; place < 64; place++) {
-            Due.writeAndFlush(volume, 0, place, 1);
-            Due.writeAndFlush(volume, 4, place, 1);
-        }
         return volume;
     }
 
@@ -140,7 +130,7 @@ final class Promise23Edges {
     }
 
     private static void partedByBlocks() {
-        Buddyfield volume = everyOther();
+        Buddyfield volume = Volumes.everyOtherBlock();
         Due.same("blocks", Due.blocks(volume, 0, 0, 3), "0 2 4");
         Due.same("the first", volume.extent(0, 0), 100);
         Due.same("the second", volume.extent(0, 1), 10102);

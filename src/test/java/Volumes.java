@@ -65,4 +65,29 @@ final class Volumes {
         }
         return volume;
     }
+
+    /** All blocks are of two files with 64 places each. */
+    static Buddyfield allMapped() {
+        Buddyfield volume = Due.withFiles(3);
+        Due.writeAndFlush(volume, 0, 0, 64);
+        Due.writeAndFlush(volume, 1, 0, 64);
+        return volume;
+    }
+
+    /** Files 0 and 4 have every other block each, from place 0 on: file 0 the even ones, file 4 the odd ones. */
+    static Buddyfield everyOtherBlock() {
+        Buddyfield volume = Due.withFiles(6);
+        for (int place = 0; place < 64; place++) {
+            Due.writeAndFlush(volume, 0, place, 1);
+            Due.writeAndFlush(volume, 4, place, 1);
+        }
+        return volume;
+    }
+
+    /** Five files, of which file 0 has the blocks 0 to 4 at its first places, and 5 to 7 are kept for it. */
+    static Buddyfield fiveOfEight() {
+        Buddyfield volume = Due.withFiles(5);
+        Due.writeAndFlush(volume, 0, 0, 5);
+        return volume;
+    }
 }
