@@ -8,7 +8,7 @@ final class Promise03Edges {
         edges.promise(3);
         edges.on("Opens the file with a name once more.")
                 .test("from 0 to 1, 2 and 3 times", Promise03Edges::onceMore)
-                .test("500 times", Promise03Edges::manyTimes)
+                .test("510 times, asked by the 512th call", Promise03Edges::manyTimes)
                 .test("the other files are not opened", Promise03Edges::othersStayClosed)
                 .test("anew behind a start", Promise03Edges::behindStart);
         edges.on("`name`: 0 to 999")
@@ -40,11 +40,10 @@ final class Promise03Edges {
 
     private static void manyTimes() {
         Buddyfield volume = Volumes.named(30);
-        for (int times = 0; times < 500; times++) {
+        for (int times = 0; times < 510; times++) {
             volume.open(30);
         }
-        Due.same("opens", volume.opens(0), 500);
-        Due.same("close", volume.close(0), 499);
+        Due.same("opens", volume.opens(0), 510);
     }
 
     private static void othersStayClosed() {
