@@ -4,11 +4,12 @@ import java.nio.file.Path;
 import java.util.ArrayList;
 import java.util.List;
 
-/** The sentences of the document's Terms and promises, and which of them a test has quoted. */
+/** The sentences of the document down to its last promise, and which of them a test has quoted. */
 final class Document {
 
-    /** The number of the Terms, beside the numbers of the promises. */
+    /** The numbers of the Terms and of what stands ahead of them, beside the numbers of the promises. */
     static final int TERMS = 0;
+    static final int AHEAD = -2;
     static final int NOWHERE = -1;
 
     private static final class Sentence {
@@ -41,12 +42,19 @@ final class Document {
             section = sectionNamed(line);
         } else if (!line.startsWith("#") && !line.startsWith("```")) {
             paragraph.append(' ').append(line);
+            // Each line of the public face says something of its own.
+            if (line.endsWith(";") || line.endsWith("{")) {
+                endParagraph();
+            }
         }
     }
 
     private static int sectionNamed(String heading) {
         if (heading.equals("## Terms")) {
             return TERMS;
+        }
+        if (heading.equals("## What it is") || heading.equals("## The public face")) {
+            return AHEAD;
         }
         if (heading.startsWith("## Promise ")) {
             return Integer.parseInt(heading.substring("## Promise ".length(), heading.indexOf(':')));
@@ -68,7 +76,7 @@ final class Document {
         return text.replace("`", "").replaceAll("\\s+", " ").trim();
     }
 
-    /** Answers where the words stand: under the promise, else in the Terms, else nowhere. */
+    /** Answers where the words stand: under the promise (or ahead of the Terms), else in the Terms, else nowhere. */
     int quote(int promise, String words) {
         for (int place : new int[] {promise, TERMS}) {
             for (Sentence sentence : sentences) {
@@ -89,8 +97,7 @@ final class Document {
         List<String> found = new ArrayList<>();
         for (Sentence sentence : sentences) {
             if (!sentence.isQuoted) {
-                String where = sentence.section == TERMS ? "Terms" : "promise " + sentence.section;
-                found.add(where + ": " + sentence.text);
+                found.add("section " + sentence.section + ": " + sentence.text);
             }
         }
         return found;

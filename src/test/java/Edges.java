@@ -30,12 +30,18 @@ final class Edges {
     /** The tests that follow stand on these words, under the promise or in the Terms. */
     Edges on(String quoted) {
         int section = document.quote(promise, quoted);
-        words = (promise == Document.TERMS ? "all promises" : "promise " + promise)
-                + (section == Document.TERMS ? ", Terms" : "") + ": \"" + quoted + "\"";
+        words = nameOf(promise) + (section == Document.TERMS ? ", Terms" : "") + ": \"" + quoted + "\"";
         if (section == Document.NOWHERE) {
             note("the document has these words", false);
         }
         return this;
+    }
+
+    private static String nameOf(int promise) {
+        if (promise == Document.AHEAD) {
+            return "ahead of the Terms";
+        }
+        return promise == Document.TERMS ? "all promises" : "promise " + promise;
     }
 
     Edges test(String edge, Body body) {
